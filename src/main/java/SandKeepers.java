@@ -559,7 +559,6 @@ public final class SandKeepers {
 
         /** Answers TAKEN or the FIRST FAULT, behind which this town is of no use. */
         private int readText(Sheet row, int i, int n) {
-            houses = 0;
             for (int place = 0; place < n; place++) {
                 if (!takesCode(place, row.cells[i + place])) {
                     return place;

@@ -125,6 +125,18 @@ public final class KeeperTests {
         Desk.due("of 0", w.trade(1), 0);
         Desk.due("and 1", w.trade(2), 1);
         Desk.due("nothing is changed", w.ofGlass(0, 4), 1);
+        SandKeepers one = Desk.seen("s2;p10110;p12221");
+        one.warm(0, 1);
+        // 0: RATE 2, 5; 1: RATE 4, 3. Exchanged: RATE 3, 4 and 3, 4.
+        Desk.due("as many together", one.trade(0), -9);
+        one.chafe(0, 2);
+        // 0: RATE 3, 4; 1: 4, 3. Exchanged: RATE 4, 3 and 3, 4.
+        Desk.due("as many together", one.trade(0), -9);
+        one.chafe(0, 9);
+        // 0: RATE 10, 1; 1: 4, 3. Exchanged: RATE 11, 1 and 3, 4.
+        Desk.due("1 more", one.trade(0), 1);
+        Desk.due("of 0", one.trade(1), 0);
+        Desk.due("and 1", one.trade(2), 1);
     }
 
     private static void first() {

@@ -9,6 +9,7 @@ public final class SeeTests {
         seeTellsFirstFaults();
         seeRefuses();
         seeMakesAllAnew();
+        aLesserSee();
         ofGlass();
         rates();
         keeps();
@@ -175,6 +176,35 @@ public final class SeeTests {
         Desk.due("none is LAID", x.ofGlass(3, 6), 0);
         Desk.due("TRACE stays", x.trace(), 1);
         Desk.due("SHEETS stay", x.cell(1, 0, 1), 5);
+    }
+
+    /** What was in the HOUSES of a greater SEE does not shine through a lesser one. */
+    private static void aLesserSee() {
+        SandKeepers x = Desk.seen("s6;p20110;p20111;p20112;p20113;p20114;p05115");
+        Desk.due("all 6 ALIVE", x.alive(0), 63);
+        Desk.due("first of 6", x.first(0), 5);
+        Desk.due("keeping of 6", x.keeping(-1), 5 * 10 + 3);
+        Desk.due("trade of 6", x.trade(0), -9);
+        Desk.due("keeps of 6", x.keeps(5), 32);
+        Desk.due("found of 6", Desk.found(x, 20), 31);
+        x.lay(5);
+        x.lay(2);
+        Desk.due("STIFF of 6", x.alive(1), 36);
+        Desk.due("a lesser one", Desk.see(x, "s2;p30110;p20111"), 2);
+        Desk.due("2 ALIVE", x.alive(0), 3);
+        Desk.due("many ALIVE", x.many(1), 2);
+        Desk.due("STIFF of 2", x.alive(1), 0);
+        Desk.due("first of 2", x.first(0), 1);
+        Desk.due("keeping of 2", x.keeping(-1), 15 + 10);
+        Desk.due("trade of 2", x.trade(0), -9);
+        Desk.due("found of 2", Desk.found(x, 20), 2);
+        Desk.due("no HOUSE 2", x.keeping(2), -9);
+        Desk.due("no GLASS 2", Desk.told(x, 12), -9);
+        Desk.due("none died behind it", x.go(10), 1);
+        x.give(0, 1);
+        x.give(1, 0);
+        Desk.due("keeps of 2", x.keeps(1), 1);
+        Desk.due("no GLASS 2", x.life(2), -1);
     }
 
     private static void ofGlass() {

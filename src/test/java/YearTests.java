@@ -168,6 +168,14 @@ public final class YearTests {
         SandKeepers y = Desk.seen(FOUR);
         Desk.write(y, 0, 0, 7, 7, 1, 9, 1, 2);
         Desk.due("cells from i on, as bytes", y.chronicle(0, 0, 2, 2, 11), 3);
+        Desk.due("what is behind its pairs is not read", y.chronicle(0, 0, 2, 1, 11), 9);
+        Desk.write(y, 0, 0, 1, 9, 7, 7);
+        Desk.due("what can't be a pair is not read", y.chronicle(0, 0, 0, 1, 11), 9);
+        y.sheet(1, 2, 60);
+        for (int i = 21; i < 60; i += 2) {
+            y.put(1, i, 9);
+        }
+        Desk.due("20 pairs at the end of 60 cells", y.chronicle(1, 2, 20, 20, 2), 0);
     }
 
     private static void chronicleFirstWrong() {
