@@ -29,6 +29,9 @@ public final class ModelTests {
         if (random.nextInt(8) > 0) {
             seeDrawn();
         }
+        if (random.nextInt(10) == 0) {
+            goFar();
+        }
         while (calls < CALLS - 60) {
             int draw = random.nextInt(100);
             if (draw == 0) {
@@ -96,6 +99,22 @@ public final class ModelTests {
         }
         int n = text.length() + (random.nextInt(6) == 0 ? random.nextInt(8) - 6 : 0);
         due("see(" + k + ", " + lane + ", " + i + ", " + n + ")", x.see(k, lane, i, n), model.see(k, lane, i, n));
+    }
+
+    /** Near to YEAR 999, with ones that are still ALIVE: their NECKS are 0, their HOUSES cold, some are STIFF. */
+    private void goFar() {
+        for (int k = 0; k < model.many(0); k++) {
+            if (random.nextInt(3) > 0) {
+                due("chafe(" + k + ", 0)", x.chafe(k, 0), model.chafe(k, 0));
+                due("warm(" + k + ", 0)", x.warm(k, 0), model.warm(k, 0));
+            }
+            if (random.nextInt(3) == 0) {
+                due("lay(" + k + ")", x.lay(k), model.act(k, 0));
+            }
+        }
+        for (int decade = 0; decade < 10; decade++) {
+            due("go(99)", x.go(99), model.go(99));
+        }
     }
 
     private void tellChronicle() {

@@ -113,6 +113,10 @@ public final class YearTests {
         Desk.due("YEAR 999", x.go(6), 0);
         Desk.due("YEAR 1000", x.go(1), -3);
         Desk.due("YEAR 999 still", x.many(2), 999);
+        SandKeepers six = Desk.seen("s6;p20110;p20111;p20112;p20113;p20114;p05115");
+        Desk.due("go of 6", six.go(3), 1);
+        Desk.due("SAND of the first", six.ofGlass(0, 1), 14);
+        Desk.due("SAND of the last", six.ofGlass(5, 1), 0);
     }
 
     private static void life() {
