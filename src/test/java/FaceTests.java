@@ -8,7 +8,9 @@ import java.nio.charset.StandardCharsets;
 import java.nio.file.Files;
 import java.nio.file.Paths;
 import java.util.Arrays;
+import java.util.Map;
 import java.util.Set;
+import java.util.TreeMap;
 import java.util.TreeSet;
 import java.util.regex.Matcher;
 import java.util.regex.Pattern;
@@ -32,6 +34,7 @@ public final class FaceTests {
         face();
         classesInside();
         words();
+        shape();
         room();
         Desk.end();
     }
@@ -115,6 +118,43 @@ public final class FaceTests {
         }
         used.removeAll(Arrays.asList("Integer.bitCount", "Math.max", "Long.MIN_VALUE", "System.arraycopy"));
         Desk.isTrue("no other library: " + used, used.isEmpty());
+    }
+
+    /** Bodies of methods by their names; several of one name are taken as one. */
+    private static Map<String, String> bodies(String code) {
+        Map<String, String> bodies = new TreeMap<>();
+        Matcher start = Pattern.compile("(?m)^( +)(?:public |private )(?:static )?[\\w\\[\\]]+ (\\w+)\\([^)]*\\) \\{\n").matcher(code);
+        while (start.find()) {
+            int end = code.indexOf("\n" + start.group(1) + "}\n", start.end() - 1);
+            bodies.merge(start.group(2), code.substring(start.end(), Math.max(start.end(), end)), String::concat);
+        }
+        return bodies;
+    }
+
+    /** How deep calls go from a method on; far above all that is allowed, if it comes to itself again. */
+    private static int depth(Map<String, String> bodies, String method, int open) {
+        int deepest = 0;
+        Matcher called = Pattern.compile("\\b(\\w+)\\(").matcher(bodies.get(method));
+        while (called.find() && open < 40) {
+            if (bodies.containsKey(called.group(1))) {
+                deepest = Math.max(deepest, depth(bodies, called.group(1), open + 1));
+            }
+        }
+        return deepest + 1;
+    }
+
+    private static void shape() throws IOException {
+        String source = new String(Files.readAllBytes(Paths.get("src/main/java/SandKeepers.java")), StandardCharsets.ISO_8859_1);
+        Map<String, String> bodies = bodies(source);
+        for (String method : FACE) {
+            Desk.isTrue("found " + method, bodies.containsKey(method.substring(method.indexOf(' ') + 1, method.indexOf('('))));
+        }
+        for (String method : bodies.keySet()) {
+            int length = bodies.get(method).split("\n").length;
+            Desk.isTrue(method + " has some sixty lines at most: " + length, length <= 60);
+            Desk.isTrue(method + " calls no deeper than eight", depth(bodies, method, 1) <= 8);
+        }
+        Desk.isTrue("each loop counts", !Pattern.compile("\\b(while|do)\\b|for \\(\\s*;|; *;").matcher(source).find());
     }
 
     /** All calls live in one room: none makes an object, and a new object is small. */

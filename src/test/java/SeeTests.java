@@ -92,12 +92,12 @@ public final class SeeTests {
         String text = "s2;p11001;c99931";
         String[] fit = {"s", "23456", ";", "pwc", "0123456789", "0123456789", "0123456789", "0123", "01",
             ";", "pwc", "0123456789", "0123456789", "0123456789", "0123", "01"};
-        SandKeepers x = new SandKeepers();
         for (int place = 0; place < text.length(); place++) {
-            Desk.write(x, 1, 2, Desk.codes(text));
-            Desk.due("ends at " + place, x.see(1, 2, 0, place), -100 - place);
             for (int code = -130; code < 300; code++) {
-                x.put(1, place, code);
+                SandKeepers y = new SandKeepers();
+                Desk.write(y, 1, 2, Desk.codes(text));
+                Desk.due("ends at " + place, y.see(1, 2, 0, place), -100 - place);
+                y.put(1, place, code);
                 boolean fits = code > 0 && code < 128 && fit[place].indexOf(code) >= 0;
                 int want = 2;
                 if (!fits) {
@@ -105,13 +105,10 @@ public final class SeeTests {
                 } else if (place == 1 && code != '2') {
                     want = -116;
                 }
-                Desk.due("code " + code + " at " + place, x.see(1, 2, 0, 16), want);
-                if (place < 3 && fits) {
-                    x = new SandKeepers();
-                    Desk.write(x, 1, 2, Desk.codes(text));
-                }
+                Desk.due("code " + code + " at " + place, y.see(1, 2, 0, 16), want);
             }
         }
+        SandKeepers x = new SandKeepers();
         Desk.due("SAND 00", Desk.see(x, "s2;p00001;p10001"), -105);
         Desk.due("SAND 0", Desk.see(x, "s2;p0"), -105);
         Desk.due("SAND 0 and no digit", Desk.see(x, "s2;p0;"), -105);
@@ -125,6 +122,13 @@ public final class SeeTests {
         Desk.write(x, 1, 2, Desk.codes("s2;p10001;c9993"));
         x.put(1, 0, 's' + 256);
         Desk.due("a code above 255", x.see(1, 2, 0, 15), -100);
+        for (int lane = 0; lane < 3; lane++) {
+            Desk.write(x, 1, lane, Desk.codes(text));
+            x.put(1, 0, 's' + 256);
+            Desk.due("cut to a byte it is an s", x.see(1, lane, 0, 16), lane == 0 ? 2 : -100);
+            x.put(1, 0, 's' - 65536);
+            Desk.due("cut to a short it is an s", x.see(1, lane, 0, 16), lane < 2 ? 2 : -100);
+        }
     }
 
     private static void seeRefuses() {

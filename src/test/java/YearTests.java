@@ -10,6 +10,7 @@ public final class YearTests {
         go();
         life();
         chronicleAnswers();
+        chronicleOfSix();
         chronicleFirstWrong();
         chronicleRefuses();
         Desk.end();
@@ -113,6 +114,17 @@ public final class YearTests {
         Desk.due("YEAR 999", x.go(6), 0);
         Desk.due("YEAR 1000", x.go(1), -3);
         Desk.due("YEAR 999 still", x.many(2), 999);
+        SandKeepers far = Desk.seen(FOUR);
+        for (int years = 0; years < 900; years += 90) {
+            far.go(90);
+        }
+        Desk.due("go 99 to YEAR 999", far.go(99), 0);
+        Desk.due("YEAR 999", far.many(2), 999);
+        far.give(3, 3);
+        Desk.due("acts can be in YEAR 999", far.lay(3), 30);
+        Desk.due("LIFE in YEAR 999", far.life(3), 99);
+        far.give(3, 2);
+        Desk.due("a HOUSE of one not ALIVE keeps, too", far.keeps(2), 8);
         SandKeepers six = Desk.seen("s6;p20110;p20111;p20112;p20113;p20114;p05115");
         Desk.due("go of 6", six.go(3), 1);
         Desk.due("SAND of the first", six.ofGlass(0, 1), 14);
@@ -131,6 +143,20 @@ public final class YearTests {
         Desk.due("life of a STIFF one", x.life(0), 99);
         x.go(4);
         Desk.due("life of one not ALIVE", x.life(1), 0);
+        x.chafe(1, 0);
+        x.warm(0, 0);
+        Desk.due("RATE 1 is the WIDE one's least", x.ofGlass(1, 5), 1);
+        x.chafe(2, 0);
+        x.warm(1, 0);
+        Desk.due("RATE 0", x.ofGlass(2, 5), 0);
+        Desk.due("life of one not ALIVE, at RATE 0", x.life(2), 0);
+        Desk.due("odds of one not ALIVE, at RATE 0", x.odds(2, 1, 0), 0);
+        SandKeepers none = Desk.seen("s3;p05000;w05000;c05000");
+        Desk.due("life of a PLAIN one at RATE 0", none.life(0), 99);
+        Desk.due("life of a WIDE one at RATE 1", none.life(1), 5);
+        Desk.due("life of a CRACKED one at half of RATE 1", none.life(2), 99);
+        none.turn(0);
+        Desk.due("not ALIVE, at RATE 0", none.life(0), 0);
         SandKeepers y = Desk.seen("s2;p99100;p98100");
         Desk.due("life 99", y.life(0), 99);
         Desk.due("life 98", y.life(1), 98);
@@ -180,6 +206,36 @@ public final class YearTests {
             y.put(1, i, 9);
         }
         Desk.due("20 pairs at the end of 60 cells", y.chronicle(1, 2, 20, 20, 2), 0);
+        for (int i = 20; i < 60; i += 2) {
+            y.put(1, i, 9);
+        }
+        Desk.due("9 YEARS 20 times", y.chronicle(1, 2, 20, 20, 2), 180);
+    }
+
+    private static void chronicleOfSix() {
+        SandKeepers x = Desk.seen("s6;p20110;p20111;p20112;p20113;p20114;p05115");
+        int[] tale = {2, 9, 5, 0, 4, 2, 3, 9, 5, 2, 3, 9};
+        Desk.due("a LAID one can't be TURNED", Desk.told(x, 1, tale), 4);
+        tale[8] = 4;
+        // SAND of 5: 5, 3, 1, LAID 1; of 4: 20, 18, 16, TURNED 4, 2, 0; it can't be TURNED behind 3 YEARS.
+        Desk.due("nor one not ALIVE", Desk.told(x, 1, tale), 4);
+        tale[8] = 3;
+        Desk.due("all can be", Desk.told(x, 1, tale), -9);
+        // 0, 1, 2: 20 less 8 YEARS of 2; 3: 20, 16, 10, TURNED 10, 4.
+        int[] sand = {4, 4, 4, 4, 0, 1};
+        int[] died = {-9, -9, -9, -9, 4, -9};
+        int[] alone = {-9, -9, -9, -9, -9, 3};
+        for (int k = 0; k < 6; k++) {
+            Desk.due("SAND of " + k, Desk.told(x, 10 + k, tale), sand[k]);
+            Desk.due("died " + k, Desk.told(x, 20 + k, tale), died[k]);
+            Desk.due("died " + k + " in 9 YEARS", Desk.told(x, 20 + k, 9, 9), alone[k]);
+        }
+        Desk.due("who is ALIVE", Desk.told(x, 3, tale), 47);
+        Desk.due("died behind YEARS in several pairs", Desk.told(x, 25, 1, 9, 0, 9, 1, 9, 1, 9), 3);
+        x.go(2);
+        Desk.due("counted from its first YEAR on", Desk.told(x, 25, 9, 9), 1);
+        x.go(1);
+        Desk.due("not ALIVE ahead of it", Desk.told(x, 25, 9, 9), -9);
     }
 
     private static void chronicleFirstWrong() {
